@@ -548,6 +548,11 @@ public final class PromisesTest {
             x.hit(0, 0, 0);
         }
         check.due("35 of probe 1 in lost events", 1, x::dearest);
+        EventTracer y = withProbes("a", "*", 1);
+        y.addProcessor(0, 1);
+        y.addProcess(999);
+        y.hit(0, 0, 0);
+        check.due("the least sum that there can be", 0, y::dearest);
     }
 
     // ---- promises 19 to 23
