@@ -8,6 +8,7 @@ final class Check {
     }
 
     private final String title;
+    private String sentence = "";
     private int checked = 0;
     private int wrong = 0;
 
@@ -15,19 +16,33 @@ final class Check {
         this.title = title;
     }
 
-    /**
-     * The answer of a call, or "throws X" with the simple name of the exception's own class.
-     * An exception that comes out of the Java library was not thrown by the program itself, so
-     * it is told with its place and is never the one that is due.
-     */
+    /** The answer of a call, or the exception that it throws, as nameOf tells it. */
     static Object answerOf(Call call) {
         try {
             return call.answer();
         } catch (RuntimeException exception) {
-            String place = exception.getStackTrace()[0].getClassName();
-            String name = exception.getClass().getSimpleName();
-            return "throws " + name + (place.startsWith("java.") || place.startsWith("jdk.") ? " in " + place : "");
+            return nameOf(exception);
         }
+    }
+
+    /**
+     * "throws X" with the simple name of the exception's own class. What the Java library or the
+     * machine threw was not thrown by the program itself, so it is told apart and is never the
+     * one that is due.
+     */
+    static String nameOf(Throwable exception) {
+        StackTraceElement[] trace = exception.getStackTrace();
+        String place = trace.length == 0 ? "java.lang" : trace[0].getClassName();
+        String name = "throws " + exception.getClass().getSimpleName();
+        if (place.startsWith("java.") || place.startsWith("jdk.")) {
+            return name + " in " + place;
+        }
+        return "/ by zero".equals(exception.getMessage()) ? name + " of a division" : name;
+    }
+
+    /** The document's words that the answers from now on are about. */
+    void about(String sentence) {
+        this.sentence = "\"" + sentence + "\": ";
     }
 
     void due(String what, Object want, Call call) {
@@ -35,7 +50,7 @@ final class Check {
         checked++;
         if (!Objects.equals(got, want)) {
             wrong++;
-            System.out.println(what + " answered " + got + ", due is " + want);
+            System.out.println(sentence + what + " answered " + got + ", due is " + want);
         }
     }
 

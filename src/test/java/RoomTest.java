@@ -1,19 +1,43 @@
 import java.lang.management.ManagementFactory;
 
 /**
- * What a run of 512 calls makes stays far below the room of one run, 600,000 objects and arrays:
- * at 16 bytes or more for each, the bytes that are due here are a small part of it.
+ * What 512 calls make stays below the room of one run, 600,000 objects and arrays and 7.3 million
+ * fields and elements: an object takes 16 bytes at least and an element one, so what stays below
+ * the bytes that are due here has less than half of either.
  */
 public final class RoomTest {
-    private static final long BYTES_DUE = 200_000;
+    private static final int MOST_CALLS = 512;
+    private static final int CALLS_OF_FILL = 273;
+    private static final long BYTES_DUE = 3_600_000;
 
     private static final Check check = new Check("room");
 
+    /** A call that is made again and again. */
+    private interface Asking {
+        void ask(EventTracer x, int round);
+    }
+
     public static void main(String[] args) {
-        bytesOfFullRun("to load the classes", 0);
-        check.due("bytes of a run without many questions", true, () -> bytesOfFullRun("few", 0) < BYTES_DUE);
-        check.due("bytes of a run with 200 checks", true, () -> bytesOfFullRun("checks", 200) < BYTES_DUE);
+        bytesOfFullRun((x, round) -> x.now());
+        dueRoom("isConsistent", (x, round) -> x.isConsistent());
+        dueRoom("causes", (x, round) -> x.causes(0, round % 60));
+        dueRoom("causesByPairs", (x, round) -> x.causesByPairs(0, round % 60));
+        dueRoom("merged", (x, round) -> x.merged(round % 48));
+        dueRoom("fingerprint", (x, round) -> x.fingerprint());
+        dueRoom("replay", (x, round) -> x.replay());
+        dueRoom("matches", (x, round) -> x.matches(round % 6, round % 10));
+        dueRoom("matchesByTable", (x, round) -> x.matchesByTable(round % 6, round % 10));
+        dueRoom("spentByEvents", (x, round) -> x.spentByEvents(0));
+        dueRoom("bound", (x, round) -> x.bound(0, 3));
+        dueRoom("correctedTime", (x, round) -> x.correctedTime(round % 60));
+        dueRoom("refused calls", (x, round) -> Check.answerOf(() -> x.addProbe(0)));
         check.end();
+    }
+
+    private static void dueRoom(String title, Asking asking) {
+        long bytes = bytesOfFullRun(asking);
+        check.due("bytes of a full run of " + title + " (" + bytes + ") below " + BYTES_DUE, true,
+                () -> bytes < BYTES_DUE);
     }
 
     private static long bytesSoFar() {
@@ -21,19 +45,14 @@ public final class RoomTest {
         return threads.getCurrentThreadAllocatedBytes();
     }
 
-    private static long bytesOfFullRun(String title, int checks) {
+    private static long bytesOfFullRun(Asking asking) {
         long before = bytesSoFar();
         EventTracer x = new EventTracer();
         fill(x);
-        for (int i = 0; i < checks; i++) {
-            x.isConsistent();
-            x.causesByPairs(0, 59);
-            x.merged(i % 48);
-            x.replay();
+        for (int round = 0; round < MOST_CALLS - CALLS_OF_FILL; round++) {
+            asking.ask(x, round);
         }
-        long bytes = bytesSoFar() - before;
-        System.out.println("a full run (" + title + ") made " + bytes + " bytes");
-        return bytes;
+        return bytesSoFar() - before;
     }
 
     private static void fill(EventTracer x) {
